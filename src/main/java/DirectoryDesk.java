@@ -107,6 +107,7 @@ public final class DirectoryDesk {
     private final Name target = new Name();
     private final Changes changes = new Changes();
     private final Query query = new Query();
+    private final Filters filters = new Filters();
     /** All values of one message may come to an entry's pairs before it is known that these are too many. */
     private final Pairs draft = new Pairs(MOST_PAIRS + MOST_VALUES);
     private boolean lineOpen;
@@ -339,6 +340,8 @@ public final class DirectoryDesk {
         in.span(TEXT);
         target.readFrom(in);
         query.readFrom(in);
+        filters.readFrom(in);
+        query.readWantedTypes(in);
         if (!in.isReadWell()) {
             return MALFORMED;
         }
@@ -355,7 +358,8 @@ public final class DirectoryDesk {
         int found = 0;
         boolean hasRoom = true;
         for (int e = 0; e < tree.count; e++) {
-            if (query.isFor(tree.rows[e], target)) {
+            boolean isInScope = query.isInScope(tree.rows[e].name.levelsUnder(target));
+            if (isInScope && filters.areTrueFor(tree.rows[e].pairs)) {
                 found++;
                 if (hasRoom && query.isWithinLimit(found)) {
                     hasRoom = answerEntry(tree.rows[e]);
@@ -481,7 +485,6 @@ public final class DirectoryDesk {
             if (at != end) {
                 wrong = true;
             }
-            at = end;
             end = around;
         }
 
@@ -534,9 +537,6 @@ public final class DirectoryDesk {
         /** Reads an element with any contents, and keeps where these are. */
         void span(int tag) {
             int around = enter(tag);
-            if (wrong) {
-                at = end;
-            }
             spanRest();
             leave(around);
         }
@@ -678,7 +678,7 @@ public final class DirectoryDesk {
                 return;
             }
             int from = in.spanFrom;
-            for (int i = 0; i < MOST_PARTS && from <= in.spanTo; i++) {
+            for (int i = 0; i < MOST_PARTS && from < in.spanTo; i++) {
                 int to = in.partEnd(from);
                 if (!readPart(in, from, to)) {
                     parts = NONE;
@@ -957,14 +957,14 @@ public final class DirectoryDesk {
         }
     }
 
-    /** What a search asks for, but for its base. */
+    /** What a search asks for, but for its base and its filters. */
     private static final class Query {
-        final Filters filters = new Filters();
         int scope;
         int limit;
         boolean typesAlone;
         int wantedTypes;
 
+        /** Reads what stands before the filter. */
         void readFrom(Reader in) {
             scope = in.choice(WHOLE_TREE);
             in.choice(MOST_UNUSED_CHOICE);
@@ -974,11 +974,10 @@ public final class DirectoryDesk {
             }
             in.number();
             typesAlone = in.flag();
-            filters.readFrom(in);
-            readWantedTypes(in);
         }
 
-        private void readWantedTypes(Reader in) {
+        /** Reads what stands behind the filter. */
+        void readWantedTypes(Reader in) {
             int around = in.enter(LIST);
             wantedTypes = in.hasMore() ? 0 : EVERY_TYPE;
             for (int i = 0; i < MOST_WANTED && in.hasMore(); i++) {
@@ -999,11 +998,8 @@ public final class DirectoryDesk {
             return limit == 0 || found <= limit;
         }
 
-        boolean isFor(Entry entry, Name base) {
-            return isInScope(entry.name.levelsUnder(base)) && filters.areTrueFor(entry.pairs);
-        }
-
-        private boolean isInScope(int levels) {
+        /** Whether an entry is asked for that is so many levels under the base, or NONE if it is not under it. */
+        boolean isInScope(int levels) {
             switch (scope) {
                 case BASE_ALONE:
                     return levels == 0;

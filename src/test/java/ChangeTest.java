@@ -56,19 +56,22 @@ public final class ChangeTest {
     }
 
     private static void names(Checks checks) {
-        Desk x = Desk.signedOn(checks);
         String[] none = {"", "a", "a=", "=r", "a=r,", ",a=r", "a=r,,a=r", "g=1", "A=r", "`=r", "a=R", "a=r ", " a=r",
             "aa=r", "a==r", "a=r=r", "a:r", "a=123456789", "a=1,b=2,c=3,d=4,e=5", "a=r, b=1", "a=r;b=1", "a=_",
-            "a={", "a=/", "a=:", "a=\u00e9", "a=r,b", "a=r,b=", ",", "a=r\0"};
+            "a={", "a=/", "a=:", "a=\u00e9", "a=r,b", "a=r,b=", ",", "a=r\0", "a=r,b=?", "b=?,a=r", "g=1,a=r", "a=r,g=1",
+            "a=r,123", "a=r,b-1", "b-1,a=r", "a=1,b=2,c=3,d=4,"};
         for (String name : none) {
+            Desk x = Desk.signedOn(checks);
             x.gives("delete " + name, Bytes.delete(name), 34);
+            x.gives("search " + name, Bytes.search(name, 0, 0, 0, Bytes.all()), name.isEmpty() ? 0 : 34);
         }
         String[] some = {"b=1", "f=z", "a=12345678", "a=0,a=9", "a=az,b=za", "a=1,b=2,c=3,d=4",
             "a=12345678,b=12345678,c=12345678,d=12345678"};
         for (String name : some) {
+            Desk x = Desk.signedOn(checks);
             x.gives("delete " + name, Bytes.delete(name), 32);
+            checks.same("nothing was deleted", x.desk.entries(), 1);
         }
-        checks.same("nothing was deleted", x.desk.entries(), 1);
     }
 
     private static void adding(Checks checks) {
@@ -133,6 +136,13 @@ public final class ChangeTest {
         checks.same("16 again", x.desk.entries(), 16);
         checks.same("the last one", x.shown(15), "1: d=1");
         checks.same("the one that moved up", x.shown(2), "1: c=v3");
+        checks.same("no entry 16", x.desk.entry(16), -2);
+        checks.same("no pair of entry 16", x.desk.pairType(16, 0), -1);
+        checks.same("no value of entry 16", x.desk.pairValue(16, 0), -1L);
+        x.gives("delete the last", Bytes.delete("d=1"), 0);
+        checks.same("no entry 15", x.desk.entry(15), -2);
+        checks.same("no pair of entry 15", x.desk.pairType(15, 0), -1);
+        checks.same("no value of entry 15", x.desk.pairValue(15, 0), -1L);
     }
 
     private static void deleting(Checks checks) {
@@ -204,6 +214,9 @@ public final class ChangeTest {
         x.gives("less twice", Bytes.modify("a=r", Bytes.change(1, "d", "1", "1")), 16);
         x.gives("instead of the same", Bytes.modify("a=r", Bytes.change(2, "d", "2", "1")), 0);
         checks.same("in the new order", x.shown(0), "1: c=1 f=x a=r d=2 d=1");
+        x.gives("less of two", Bytes.modify("a=r", Bytes.change(1, "d"), Bytes.change(2, "c", "2")), 0);
+        x.gives("adding knows nothing of it", Bytes.add("d=1", Bytes.attribute("d", "1"), Bytes.attribute("d", "2")), 0);
+        checks.same("what was added", x.shown(1), "1: d=1 d=2");
     }
 
     private static void modifyingNothing(Checks checks) {

@@ -10,6 +10,7 @@ public final class ElementTest {
         ids(checks);
         malformedSign(checks);
         malformedAdd(checks);
+        malformedAtTheEnd(checks);
         malformedModify(checks);
         malformedSearch(checks);
         manyChanges(checks);
@@ -120,6 +121,8 @@ public final class ElementTest {
                 Bytes.element(48, Bytes.text("c"), Bytes.texts(48, "1"))), 2);
         x.gives("something behind the values", Bytes.add("b=1", own,
                 Bytes.element(48, Bytes.text("c"), Bytes.texts(49, "1"), Bytes.text(""))), 2);
+        x.gives("an attribute behind the values", Bytes.add("b=1",
+                Bytes.element(48, Bytes.text("b"), Bytes.texts(49, "1"), Bytes.attribute("c", "1"))), 2);
         x.gives("a number among the values", Bytes.add("b=1", own,
                 Bytes.element(48, Bytes.text("c"), Bytes.element(49, Bytes.number(1)))), 2);
         x.gives("a change instead of an attribute", Bytes.add("b=1", Bytes.change(0, "b", "1")), 2);
@@ -127,6 +130,21 @@ public final class ElementTest {
         x.desk.connect();
         x.gives("malformed comes before nobody", Bytes.element(104, name), 2);
         checks.same("nothing was added", x.desk.entries(), 1);
+    }
+
+    /** What is missing here would stand behind the last byte that can be typed. */
+    private static void malformedAtTheEnd(Checks checks) {
+        Desk x = Desk.signedOn(checks);
+        byte[] name = Bytes.element(4, new byte[188]);
+        checks.same("no attributes", x.sendRaw(Bytes.message(7, Bytes.element(104, name))), 2);
+        checks.same("no changes", x.sendRaw(Bytes.message(7, Bytes.element(102, name))), 2);
+        checks.same("no scope", x.sendRaw(Bytes.message(7, Bytes.element(99, name))), 2);
+        byte[] shorter = Bytes.element(4, new byte[187]);
+        checks.same("a tag alone", x.sendRaw(Bytes.message(7, Bytes.element(104, shorter, Bytes.of(48)))), 2);
+        byte[] shortest = Bytes.element(4, new byte[186]);
+        checks.same("a long length alone", x.sendRaw(Bytes.message(7, Bytes.element(104, shortest, Bytes.of(48, 129)))), 2);
+        checks.same("an empty list", x.sendRaw(Bytes.message(7, Bytes.element(104, shortest, Bytes.of(48, 0)))), 34);
+        checks.same("all of 200 bytes", Bytes.message(7, Bytes.element(104, shortest, Bytes.of(48, 0))).length, 200);
     }
 
     private static void malformedModify(Checks checks) {

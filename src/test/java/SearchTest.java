@@ -114,44 +114,45 @@ public final class SearchTest {
     }
 
     private static void undefinedFilters(Checks checks) {
-        Desk x = three(checks);
         byte[][] undefined = {Bytes.there("g"), Bytes.there(""), Bytes.there("ab"), Bytes.equal("g", "1"),
             Bytes.equal("", "1"), Bytes.equal("b", ""), Bytes.equal("b", "A"), Bytes.equal("b", "123456789"),
             Bytes.atLeast("g", "1"), Bytes.atLeast("d", "?"), Bytes.atMost("dd", "1"), Bytes.atMost("e", ""),
             Bytes.atLeast("a", "0"), Bytes.atLeast("b", "1"), Bytes.atLeast("c", "1"), Bytes.atMost("a", "z"),
             Bytes.atMost("b", "z"), Bytes.atMost("c", "z")};
         for (byte[] filter : undefined) {
+            Desk x = three(checks);
             String what = Bytes.shown(filter);
             checks.same(what, x.names(filter), "");
             checks.same("not " + what, x.names(Bytes.not(filter)), "");
         }
         byte[][] defined = {Bytes.there("c"), Bytes.equal("c", "1"), Bytes.atLeast("d", "z"), Bytes.atMost("f", "0")};
         for (byte[] filter : defined) {
+            Desk x = three(checks);
             checks.same("not " + Bytes.shown(filter), x.names(Bytes.not(filter)), "a=r b=1 b=2");
         }
     }
 
     private static void joinedFilters(Checks checks) {
         byte[][] three = {Bytes.any(), Bytes.there("?"), Bytes.all()};
-        Desk x = new Desk(checks);
         for (int i = 0; i < 3; i++) {
-            truth(checks, x, "one of " + i, three[i], i);
-            truth(checks, x, "not " + i, Bytes.not(three[i]), 2 - i);
-            truth(checks, x, "all of " + i, Bytes.all(three[i]), i);
-            truth(checks, x, "any of " + i, Bytes.any(three[i]), i);
+            truth(checks, "one of " + i, three[i], i);
+            truth(checks, "not " + i, Bytes.not(three[i]), 2 - i);
+            truth(checks, "all of " + i, Bytes.all(three[i]), i);
+            truth(checks, "any of " + i, Bytes.any(three[i]), i);
             for (int k = 0; k < 3; k++) {
-                truth(checks, x, "all of " + i + " " + k, Bytes.all(three[i], three[k]), Math.min(i, k));
-                truth(checks, x, "any of " + i + " " + k, Bytes.any(three[i], three[k]), Math.max(i, k));
+                truth(checks, "all of " + i + " " + k, Bytes.all(three[i], three[k]), Math.min(i, k));
+                truth(checks, "any of " + i + " " + k, Bytes.any(three[i], three[k]), Math.max(i, k));
             }
         }
-        truth(checks, x, "inside one another", Bytes.all(Bytes.any(three[0], three[2]), Bytes.not(three[0])), 2);
-        truth(checks, x, "behind one inside", Bytes.any(Bytes.all(three[0], three[2]), three[1]), 1);
-        truth(checks, x, "last of all", Bytes.all(Bytes.all(Bytes.all(three[2]), three[2]), three[0]), 0);
-        truth(checks, x, "not not", Bytes.not(Bytes.not(three[1])), 1);
+        truth(checks, "inside one another", Bytes.all(Bytes.any(three[0], three[2]), Bytes.not(three[0])), 2);
+        truth(checks, "behind one inside", Bytes.any(Bytes.all(three[0], three[2]), three[1]), 1);
+        truth(checks, "last of all", Bytes.all(Bytes.all(Bytes.all(three[2]), three[2]), three[0]), 0);
+        truth(checks, "not not", Bytes.not(Bytes.not(three[1])), 1);
     }
 
     /** Truth is 0 for false, 1 for undefined, 2 for true; asked of the first entry, by the filter and its NOT. */
-    private static void truth(Checks checks, Desk x, String what, byte[] filter, int truth) {
+    private static void truth(Checks checks, String what, byte[] filter, int truth) {
+        Desk x = new Desk(checks);
         checks.same(what + " is true", x.names(filter), truth == 2 ? "a=r" : "");
         checks.same(what + " is false", x.names(Bytes.not(filter)), truth == 0 ? "a=r" : "");
     }
