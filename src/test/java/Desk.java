@@ -39,6 +39,37 @@ final class Desk {
         return desk.handle();
     }
 
+    /** Sends an operation with the id 7: its code. */
+    int code(byte[] operation) {
+        return sendRaw(Bytes.message(7, operation));
+    }
+
+    /** The code of an operation on a new desk where nobody is signed on. */
+    static int codeForNobody(Checks checks, byte[] operation) {
+        return new Desk(checks).code(operation);
+    }
+
+    /** The code of an operation on a new desk where a=r is signed on. */
+    static int codeWhenSigned(Checks checks, byte[] operation) {
+        return signedOn(checks).code(operation);
+    }
+
+    /** Adds an entry that has its own part and no other pair. */
+    void add(String name) {
+        int comma = name.indexOf(',');
+        String value = comma < 0 ? name.substring(2) : name.substring(2, comma);
+        gives("add " + name, Bytes.add(name, Bytes.attribute(name.substring(0, 1), value)), 0);
+    }
+
+    /** All entries as they are told, one behind the other. */
+    String shownAll() {
+        StringBuilder shown = new StringBuilder();
+        for (int e = 0; e < desk.entries(); e++) {
+            shown.append(e == 0 ? "" : " / ").append(shown(e));
+        }
+        return shown.toString();
+    }
+
     /** Sends an operation with the id 7, checks its code and the answer's last element without a nearest name. */
     void gives(String what, byte[] operation, int code) {
         gives(what, operation, code, "");
