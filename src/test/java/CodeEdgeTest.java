@@ -320,6 +320,11 @@ public final class CodeEdgeTest {
         s.outside("64", x.desk.entries(), 2);
         x.code(Bytes.add("b=2", Bytes.attribute("b", "2")));
         s.inside("0 again", x.shown(2), "1: b=2");
+        x.gives("changes of other kinds", Bytes.modify("b=2", Bytes.change(2, "c"), Bytes.change(2, "c"),
+                Bytes.change(2, "c", "1"), Bytes.change(1, "c")), 0);
+        x.code(Bytes.add("b=3", Bytes.attribute("b", "3"), Bytes.attribute("b", "4"), Bytes.attribute("b", "5"),
+                Bytes.attribute("c", "1")));
+        s.outside("kinds of a MODIFY before it mean nothing", x.shown(3), "1: b=3 b=4 b=5 c=1");
         s.end();
     }
 

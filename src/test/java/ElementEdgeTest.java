@@ -14,6 +14,8 @@ public final class ElementEdgeTest {
         longLengths(checks);
         lengthsOfTexts(checks);
         justWhatStandsThere(checks);
+        justWhatStandsInside(checks);
+        whatIsMissingAtTheEnd(checks);
         anyNumber(checks);
         numberSizes(checks);
         numberSigns(checks);
@@ -58,6 +60,7 @@ public final class ElementEdgeTest {
         s.outside("a byte too few for it", codeOf(checks, Bytes.of(48, 6, 2, 1, 7, 74, 0)), CLOSED);
         s.outside("a byte too many for it", codeOf(checks, Bytes.of(48, 4, 2, 1, 7, 74, 0)), CLOSED);
         s.outside("a byte behind it", codeOf(checks, Bytes.of(48, 5, 2, 1, 7, 74, 0, 0)), CLOSED);
+        s.outside("the operation behind it", codeOf(checks, Bytes.of(48, 3, 2, 1, 7, 74, 0)), CLOSED);
         s.inside("an operation", codeOf(checks, Bytes.of(48, 7, 2, 1, 7, 74, 2, 97, 97)), NOBODY);
         s.outside("a byte too few for it", codeOf(checks, Bytes.of(48, 7, 2, 1, 7, 74, 3, 97, 97)), CLOSED);
         s.outside("a byte too many for it", codeOf(checks, Bytes.of(48, 7, 2, 1, 7, 74, 1, 97, 97)), CLOSED);
@@ -190,6 +193,71 @@ public final class ElementEdgeTest {
             s.outside(what + " in NOT", searchCode(checks, Bytes.element(162, Bytes.there("a"), one)), 2);
         }
         s.end();
+    }
+
+    /** What stands inside here too much would be right one element further out. */
+    private static void justWhatStandsInside(Checks checks) {
+        Sentence s = new Sentence(checks, "just what stands between the braces as its contents");
+        byte[] type = Bytes.text("b");
+        byte[] values = Bytes.texts(49, "1");
+        byte[] own = Bytes.element(48, type, values);
+        byte[] more = Bytes.attribute("c", "1");
+        s.inside("two attributes", addCode(checks, own, more), NOBODY);
+        s.outside("an attribute in an attribute", addCode(checks, Bytes.element(48, type, values, more)), 2);
+        byte[] change = Bytes.change(0, "c", "1");
+        s.inside("two changes", Desk.codeForNobody(checks, Bytes.modify("a=r",
+                Bytes.element(48, Bytes.choice(0), own), change)), NOBODY);
+        s.outside("a change in a change", Desk.codeForNobody(checks, Bytes.modify("a=r",
+                Bytes.element(48, Bytes.choice(0), own, change))), 2);
+        s.outside("a change in an attribute", Desk.codeForNobody(checks, Bytes.modify("a=r",
+                Bytes.element(48, Bytes.choice(0), Bytes.element(48, type, values, change)))), 2);
+        byte[] there = Bytes.there("a");
+        byte[] text = Bytes.text("a");
+        s.inside("two filters in ALL", searchCode(checks, Bytes.all(Bytes.not(there), there)), 0);
+        s.outside("the second one in NOT", searchCode(checks, Bytes.all(Bytes.element(162, there, there))), 2);
+        s.inside("EQUAL and another one in ALL", searchCode(checks, Bytes.all(Bytes.element(163, text, text), there)), 0);
+        s.outside("the other one in EQUAL", searchCode(checks, Bytes.all(Bytes.element(163, text, text, there))), 2);
+        byte[] list = Bytes.texts(48);
+        s.inside("the list behind NOT", tailCode(checks, Bytes.not(there), list), 0);
+        s.outside("the list in NOT", tailCode(checks, Bytes.element(162, there, list)), 2);
+        s.inside("the list behind AT LEAST", tailCode(checks, Bytes.element(165, text, text), list), 0);
+        s.outside("the list in AT LEAST", tailCode(checks, Bytes.element(165, text, text, list)), 2);
+        s.outside("the list in ALL", tailCode(checks, Bytes.all(there, list)), 2);
+        s.end();
+    }
+
+    /** The code of a search with this instead of its filter and its list. */
+    private static int tailCode(Checks checks, byte[]... tail) {
+        return Desk.codeForNobody(checks, Bytes.element(99, Bytes.text(""), Bytes.choice(2), Bytes.choice(0),
+                Bytes.number(0), Bytes.number(0), Bytes.flag(0), Bytes.join(tail)));
+    }
+
+    /** What is missing here would stand behind the last byte that can be typed. */
+    private static void whatIsMissingAtTheEnd(Checks checks) {
+        Sentence s = new Sentence(checks, "so many bytes of CONTENTS.");
+        byte[] none = {};
+        byte[] add = Bytes.element(48, Bytes.attribute("b", "1"));
+        byte[] modify = Bytes.element(48, Bytes.change(0, "b", "1"));
+        byte[] search = Bytes.join(Bytes.choice(2), Bytes.choice(0), Bytes.number(0), Bytes.number(0), Bytes.flag(0),
+                Bytes.not(Bytes.equal("a", "r")), Bytes.texts(48, "a"));
+        endings(s, checks, 104, none, add, NOBODY);
+        endings(s, checks, 102, none, modify, NOBODY);
+        endings(s, checks, 99, none, search, 34);
+        endings(s, checks, 96, Bytes.number(3), Bytes.element(128, Bytes.latin("xy")), 34);
+        s.end();
+    }
+
+    /** Messages of 200 bytes whose name is no name and so long that the tail, or a piece of it, ends them. */
+    private static void endings(Sentence s, Checks checks, int tag, byte[] head, byte[] tail, int due) {
+        for (int kept = 0; kept <= tail.length; kept++) {
+            int rest = 191 - head.length - kept - 3;
+            byte[] piece = java.util.Arrays.copyOf(tail, kept);
+            byte[] operation = Bytes.element(tag, head, Bytes.longElement(4, new byte[rest]), piece);
+            byte[] message = Bytes.message(7, operation);
+            checks.same("the bytes of it", message.length, 200);
+            boolean isWhole = kept == tail.length;
+            s.side(isWhole, kept + " bytes of the tail of " + tag, codeOf(checks, message), isWhole ? due : 2);
+        }
     }
 
     private static int searchCode(Checks checks, byte[] filter) {

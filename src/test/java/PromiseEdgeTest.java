@@ -7,6 +7,7 @@ public final class PromiseEdgeTest {
         Checks checks = new Checks("PromiseEdgeTest");
         calls(checks);
         callsThatSearch(checks);
+        constants(checks);
         newObject(checks);
         connectOpens(checks);
         connectKeepsTheAnswer(checks);
@@ -100,6 +101,21 @@ public final class PromiseEdgeTest {
         s.end();
     }
 
+    private static void constants(Checks checks) {
+        Sentence closed = new Sentence(checks, "The line is closed.");
+        closed.inside("the number", new DirectoryDesk().handle(), -1);
+        closed.inside("the constant", DirectoryDesk.CLOSED, -1);
+        closed.outside("on an open line", Desk.codeForNobody(checks, Bytes.delete("a=r")), 50);
+        closed.end();
+        Sentence bad = new Sentence(checks, "An argument is out of its bounds, or there is no such thing.");
+        bad.inside("the number", new DirectoryDesk().type(0, 9), -2);
+        bad.inside("no such entry", new DirectoryDesk().entry(1), -2);
+        bad.inside("the constant", DirectoryDesk.BAD, -2);
+        bad.outside("within its bounds", new DirectoryDesk().type(0, 8), 8);
+        bad.outside("there is such an entry", new DirectoryDesk().entry(0), 17);
+        bad.end();
+    }
+
     private static void newObject(Checks checks) {
         Sentence s = new Sentence(checks, "One entry, the line is open, nobody is signed on, nothing is typed or answered.");
         Desk x = new Desk(checks);
@@ -165,7 +181,8 @@ public final class PromiseEdgeTest {
     }
 
     private static void typeTakesTheLowest(Checks checks) {
-        Sentence s = new Sentence(checks, "Types n bytes: the lowest n of bytes, the highest of them first");
+        Sentence s = new Sentence(checks, "Types n bytes: the lowest n of bytes, the highest of them first: how many are"
+                + " typed.");
         byte[] message = Bytes.of(48, 14, 2, 1, 9, 74, 9, 'a', '=', 'q', ',', 'a', '=', 'q', ',', 'a');
         // An n that does not divide its sixteen bytes leaves a shorter piece at the end.
         for (int n = 1; n <= 8; n++) {

@@ -13,6 +13,8 @@ public final class SearchEdgeTest {
         limits(checks);
         onlyTrueOnes(checks);
         moreWithoutRoom(checks);
+        shapeOfEntries(checks);
+        shapeOfTheLast(checks);
         numbersInAnswers(checks);
         typesInAnswers(checks);
         pairsInTheirOrder(checks);
@@ -174,6 +176,43 @@ public final class SearchEdgeTest {
             six[i] = Bytes.attribute(letter, letter.equals(type) ? name.substring(2, 10) : EIGHT);
         }
         x.gives("a long entry", Bytes.add(name, six), 0);
+    }
+
+    /** Byte for byte, since the other tests make what they expect with the same helpers. */
+    private static void shapeOfEntries(Checks checks) {
+        Sentence s = new Sentence(checks, "For each entry that is answered: 48 { NUMBER id; 100 { TEXT name; 48 { 48 { TEXT"
+                + " type; 49 { TEXT value, each } }");
+        String last = "48 12 2 1 7 101 7 10 1 0 4 0 4 0";
+        Desk x = Desk.signedOn(checks);
+        x.gives("two values", Bytes.modify("a=r", Bytes.change(0, "f", "09")), 0);
+        x.code(Bytes.search("", 2, 0, 0, ALL));
+        s.inside("one entry", Bytes.shown(x.answer()), "48 36 2 1 7 100 31 4 3 97 61 114 48 24 48 8 4 1 97 49 3 4 1 114"
+                + " 48 12 4 1 102 49 7 4 1 120 4 2 48 57 " + last);
+        x.code(Bytes.search("", 2, 0, 0, ALL, "c"));
+        s.inside("one entry without types", Bytes.shown(x.answer()), "48 12 2 1 7 100 7 4 3 97 61 114 48 0 " + last);
+        x.code(Bytes.search("", 2, 0, 1, ALL, "f"));
+        s.inside("one entry, types alone", Bytes.shown(x.answer()),
+                "48 19 2 1 7 100 14 4 3 97 61 114 48 7 48 5 4 1 102 49 0 " + last);
+        x.add("b=1,a=r");
+        x.code(Bytes.search("", 2, 0, 0, ALL, "b"));
+        s.inside("two entries", Bytes.shown(x.answer()), "48 12 2 1 7 100 7 4 3 97 61 114 48 0"
+                + " 48 26 2 1 7 100 21 4 7 98 61 49 44 97 61 114 48 10 48 8 4 1 98 49 3 4 1 49 " + last);
+        x.code(Bytes.search("", 0, 0, 0, ALL));
+        s.outside("no entry", Bytes.shown(x.answer()), last);
+        s.end();
+    }
+
+    private static void shapeOfTheLast(Checks checks) {
+        Sentence s = new Sentence(checks, "Last: 48 { NUMBER id; T { CHOICE code; TEXT; TEXT with nothing } }");
+        Desk x = Desk.signedOn(checks);
+        s.inside("0", Bytes.shown(x.answer()), "48 12 2 1 7 97 7 10 1 0 4 0 4 0");
+        x.code(Bytes.delete("b=1,a=r"));
+        s.outside("32", Bytes.shown(x.answer()), "48 15 2 1 7 107 10 10 1 32 4 3 97 61 114 4 0");
+        x.sendRaw(Bytes.message(128, Bytes.delete("b=1,a=r")));
+        s.outside("32 with an id of two bytes", Bytes.shown(x.answer()), "48 16 2 2 0 128 107 10 10 1 32 4 3 97 61 114 4 0");
+        x.code(Bytes.add("a=r"));
+        s.inside("68", Bytes.shown(x.answer()), "48 12 2 1 7 105 7 10 1 68 4 0 4 0");
+        s.end();
     }
 
     private static void numbersInAnswers(Checks checks) {
