@@ -1,11 +1,17 @@
 import java.io.IOException;
+import java.lang.reflect.Field;
+import java.lang.reflect.Method;
+import java.lang.reflect.Modifier;
 import java.nio.file.Files;
 import java.nio.file.Path;
+import java.util.ArrayList;
+import java.util.HashSet;
 import java.util.List;
+import java.util.Set;
 import java.util.regex.Matcher;
 import java.util.regex.Pattern;
 
-/** What of ../shared/LANGUAGE.md can be seen by looking through the program's text. */
+/** What of ../shared/LANGUAGE.md can be seen in the program's text and in its members. */
 public final class LanguageTest {
     private static final List<String> NEVER = List.of("import ", "package ", "->", "::", "synchronized", "finally",
             "assert ", "hashCode", "toString", "Exact(", "throw ", " try {", "while ", "double", "float", "String",
@@ -35,7 +41,44 @@ public final class LanguageTest {
             }
         }
         checks.same("at most twelve classes", classes <= 12, true);
+        checkMembers(checks);
         checks.end();
+    }
+
+    private static void checkMembers(Checks checks) {
+        Class<?> desk = DirectoryDesk.class;
+        List<Class<?>> classes = new ArrayList<>(List.of(desk.getDeclaredClasses()));
+        classes.add(desk);
+        Set<Class<?>> types = new HashSet<>(List.of(int.class, long.class, boolean.class, int[].class, long[].class));
+        Set<String> faceNames = new HashSet<>();
+        for (Method method : desk.getMethods()) {
+            faceNames.add(method.getName());
+        }
+        for (Class<?> one : classes) {
+            types.add(one);
+            types.add(one.arrayType());
+        }
+        for (Class<?> one : classes) {
+            checks.same(one.getName() + " has no class inside but in the outermost one",
+                    one == desk || one.getDeclaredClasses().length == 0, true);
+            checkFields(checks, one, types);
+            for (Method method : one.getDeclaredMethods()) {
+                boolean isOfFace = one == desk && Modifier.isPublic(method.getModifiers());
+                checks.same(method + " has a name of its own", isOfFace || !faceNames.contains(method.getName()), true);
+            }
+        }
+    }
+
+    private static void checkFields(Checks checks, Class<?> one, Set<Class<?>> types) {
+        int ofObjects = 0;
+        for (Field field : one.getDeclaredFields()) {
+            boolean isStatic = Modifier.isStatic(field.getModifiers());
+            checks.same(field + " is of a type that is listed", types.contains(field.getType()), true);
+            checks.same(field + " is a constant number if it is static",
+                    !isStatic || (Modifier.isFinal(field.getModifiers()) && field.getType().isPrimitive()), true);
+            ofObjects += isStatic ? 0 : 1;
+        }
+        checks.same(one.getName() + " has at most twenty fields", ofObjects <= 20, true);
     }
 
     private static void checkMethod(Checks checks, List<String> lines, int from, Matcher method) {
